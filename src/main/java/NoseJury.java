@@ -728,7 +728,6 @@ public final class NoseJury {
             places[person] = place;
             noses[person] = NOSE_FIRST;
             colds[person] = 0;
-            // Somebody whom undo() took away may have been here.
             for (int deed = 0; deed < DEEDS; deed++) {
                 scents[deed][person] = 0;
             }

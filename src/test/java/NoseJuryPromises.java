@@ -250,6 +250,8 @@ public final class NoseJuryPromises {
         y.hours(1);
         y.did(0, 2, 31);
         due(21, y.scent(0, 2, 1));
+        y.did(0, 3, 9);
+        due(0, y.scent(0, 3, 1));
         y.hours(1);
         due(27, y.scent(0, 2, 0));
         due(8, y.scent(0, 2, 1));
@@ -410,6 +412,11 @@ public final class NoseJuryPromises {
         begin(13);
         NoseJury x = hallOf(0, 0, 1);
         due(NONE, x.deed(0, 1));
+        // 1 by 5 by 6 is nothing; of 2 it is 1.
+        x.did(1, 3, 1);
+        due(NONE, x.deed(0, 1));
+        x.did(1, 3, 2);
+        due(3, x.deed(0, 1));
         x.did(1, 1, 40);
         x.did(1, 4, 40);
         due(1, x.deed(0, 1));
@@ -536,6 +543,8 @@ public final class NoseJuryPromises {
         due(2, x.now(4));
         x.law(1, 8);
         due(6, x.now(4));
+        x.did(0, 5, 99);
+        due(7, x.now(4));
         x.hours(2);
         due(2, x.now(0));
         due(BEYOND, x.now(5));
@@ -747,6 +756,7 @@ public final class NoseJuryPromises {
         due(BEYOND, x.juries(-1, 1));
         NoseJury y = hallOf(0, 0, 0, 0, 0, 0, 0, 0, 0);
         y.did(3, 0, 99);
+        due(7, y.juries(3, 1));
         due(35, y.juries(3, 3));
         due(1, y.juries(3, 7));
     }
@@ -778,6 +788,11 @@ public final class NoseJuryPromises {
         due(NONE, x.from(0, 3));
         x.did(1, 3, 4);
         due(1, x.from(0, 3));
+        // The first has most, and gives it to both of the others.
+        x.did(0, 4, 60);
+        x.did(1, 4, 9);
+        due(0, x.from(2, 4));
+        due(0, x.from(1, 4));
         due(BEYOND, x.from(0, 6));
         due(BEYOND, x.from(0, -1));
         due(BEYOND, x.from(4, 0));
@@ -890,6 +905,8 @@ public final class NoseJuryPromises {
         due(0, x.of(6, 0));
         due(4, x.of(6, 1));
         due(7, x.scent(6, 4, 0));
+        due(1, told(x, "wind 0"));
+        due(0, x.now(1));
         due(2, told(x, "wind 1;wind 4"));
         due(4, x.now(1));
         due(1, told(x, "person at 3nose4cold did5 6"));
@@ -908,7 +925,7 @@ public final class NoseJuryPromises {
             "person at 1 did 5", "person at 1 did 5 100", "person at 1 did 5 1 did 4 1", "person at 1 did 5 1 cold",
             "person at 1 did 5 1 2", "persons at 1", "personat 1", "perso at 1", "person at 1 nosecold",
             "wind 1;due 5;person at 5;x", "wind 1,due 5", "at 1", "cold", "person at 1;nose 5", "person at 1 colder",
-            "wind 1 ; person at 3 did 3 3 ; due 0",
+            "wind 1 ; person at 3 did 3 3 ; due 0", "lind 1", "windz 1", "bog at 1", "person it 1", "zwind 1",
         };
         int[] faults = {
             0, 3, 0, 4, 5, 5, 5, 5, 7, 8, 7,
@@ -919,7 +936,7 @@ public final class NoseJuryPromises {
             17, 18, 20, 20,
             20, 0, 0, 0, 12,
             25, 6, 0, 0, 12, 12,
-            35,
+            35, 0, 0, 0, 7, 0,
         };
         due(texts.length, faults.length);
         NoseJury x = hallOf(0, 0);
@@ -964,8 +981,10 @@ public final class NoseJuryPromises {
         due(0, x.sheet(1, 16, 0));
         due(3, x.sheet(3, 64, 3));
         due(0, x.lays(1));
+        due(0, x.write(3, 0, 8));
         due(0, x.write(3, 2, 9));
         due(3, x.sheet(3, 64, 3));
+        due(0, x.write(3, 0, 8));
         due(0, x.write(3, 2, 9));
         due(0, x.sheet(3, 0, 7));
         due(MISSING, x.write(3, 0, 0));
@@ -1038,6 +1057,8 @@ public final class NoseJuryPromises {
         due(0, x.copy(0, 5, 1, 3, 0));
         due(BEYOND, x.copy(0, 6, 1, 3, 0));
         due(BEYOND, x.copy(0, 5, 1, 4, 0));
+        due(BEYOND, x.copy(0, 3, 1, 0, 3));
+        due(BEYOND, x.copy(0, 0, 1, 1, 3));
         due(BEYOND, x.copy(0, 0, 1, 0, 4));
         due(BEYOND, x.copy(1, 0, 0, 0, 4));
         due(BEYOND, x.copy(0, -1, 1, 0, 1));
