@@ -91,6 +91,7 @@ public final class NoseJuryPromises {
         tear();
         count();
         status();
+        fullHall();
         System.out.println(wrong == 0 ? "all promises are kept" : wrong + " answers are not as due");
         if (wrong != 0) {
             System.exit(1);
@@ -926,6 +927,7 @@ public final class NoseJuryPromises {
             "person at 1 did 5 1 2", "persons at 1", "personat 1", "perso at 1", "person at 1 nosecold",
             "wind 1;due 5;person at 5;x", "wind 1,due 5", "at 1", "cold", "person at 1;nose 5", "person at 1 colder",
             "wind 1 ; person at 3 did 3 3 ; due 0", "lind 1", "windz 1", "bog at 1", "person it 1", "zwind 1",
+            "wind 1;wind x", "wind 1;3 2", "person 1 1",
         };
         int[] faults = {
             0, 3, 0, 4, 5, 5, 5, 5, 7, 8, 7,
@@ -937,6 +939,7 @@ public final class NoseJuryPromises {
             20, 0, 0, 0, 12,
             25, 6, 0, 0, 12, 12,
             35, 0, 0, 0, 7, 0,
+            12, 7, 7,
         };
         due(texts.length, faults.length);
         NoseJury x = hallOf(0, 0);
@@ -1131,6 +1134,10 @@ public final class NoseJuryPromises {
         due(79 * 9 / 5, x.write(0, 1, 0));
         due(35 * 9 / 5, x.write(0, 2, 0));
         due(61 * 9 / 5, x.write(0, 3, 0));
+        x.sheet(0, 64, 40);
+        due(40, x.book(0, 0, 1, 0));
+        due(44 * 9 / 5, x.write(0, 0, 0));
+        due(0, x.write(0, 39, 0));
         due(BEYOND, x.book(0, 0, 0, 0));
         due(BEYOND, x.book(0, 0, 2, 0));
         due(BEYOND, x.book(0, 2, 0, 0));
@@ -1277,6 +1284,30 @@ public final class NoseJuryPromises {
         due(19, x.count(3));
         due(BEYOND, x.count(4));
         due(BEYOND, x.count(-1));
+    }
+
+    /** With all 8 there, what goes over people must end with the last of them. */
+    private static void fullHall() {
+        NoseJury x = hallOf(0, 0, 0, 0, 0, 0, 0, 0, 0);
+        x.did(7, 0, 80);
+        x.set(7, 3, 1);
+        due(127, x.guilty(7));
+        due(128, x.now(4));
+        // 80 by 3 is 26, in an hour 23: still enough; but a quarter of 26 is too little to make another one guilty.
+        due(NONE, x.bath(7));
+        due(7, x.bath(0));
+        due(7, x.from(0, 0));
+        due(20, x.on(0, 0, 1));
+        due(1, x.count(2));
+        due(40, x.count(3));
+        due(127, x.jury(7, 7));
+        due(71 + 7 * 20, x.hours(1));
+        // 71 by 5 by 17 is 20: the farthest place is no better than the first.
+        due(0, x.seat(7));
+        x.did(7, 0, 67);
+        due(47, x.seat(7));
+        x.did(7, 0, 71);
+        due(71 + 7 * 20, x.now(3));
     }
 
     private static void status() {
