@@ -78,6 +78,8 @@ public final class EdgesOfBest {
         Edge.onlyAsks(47, () -> smelling(67, 0, 0), x -> x.seat(0));
         Edge.onlyAsks(0, () -> smelling(68, 0, 0), x -> x.seat(0));
         Edge.onlyAsks(0, () -> smelling(67, 47, 47), x -> x.seat(0));
+        // From 7 no place is more than 12 apart: below the last row there is none.
+        Edge.onlyAsks(0, () -> smelling(68, 7, 7), x -> x.seat(0));
         // Not nobody, but fewest: away from two of three.
         Edge.onlyAsks(0, () -> smelling(60, 20, 0, 47, 47), x -> x.seat(0));
         Edge.onlyAsks(39, () -> smelling(60, 20, 0, 0, 47), x -> x.seat(0));
@@ -283,6 +285,14 @@ public final class EdgesOfBest {
             Edge.onlyAsks(ofFour[n], () -> found(8, 30), x -> x.juries(0, want));
             Edge.onlyAsks(0, () -> found(8, 0), x -> x.juries(0, want));
             Edge.onlyAsks(0, () -> found(1, 1), x -> x.juries(0, want));
+        }
+        // Of the others, where the one is the last of them, or in their middle.
+        NoseJury last = Edge.hallOf(0, 0, 0, 0, 0, 0, 0, 0, 0);
+        last.did(7, 0, 99);
+        last.did(3, 0, 99);
+        for (int n = 1; n <= 7; n++) {
+            due(ofAll[n], last.juries(7, n));
+            due(ofAll[n], last.juries(3, n));
         }
         // None is no finding here.
         Edge.onlyAsks(1, () -> found(4, 14), x -> x.juries(0, 3));

@@ -149,7 +149,17 @@ public final class EdgesOfText {
         reads(2, "wind2;due3");
         reads(1, "person at3nose4cold did5 6");
         reads(1, "cook at 3 nose4did5 6");
-        faults(0, "windy 2");
+        faults(0, "winda 2");
+        faults(0, "windz 2");
+        faults(0, "awind 2");
+        faults(0, "zwind 2");
+        faults(4, "dog ata 2");
+        faults(4, "dog atz 2");
+        faults(4, "dog it 2");
+        faults(4, "dog ab 2");
+        faults(9, "dog at 2 rose 3");
+        faults(9, "dog at 2 bold");
+        faults(9, "dog at 2 dip 3 4");
         faults(0, "win d 2");
         faults(0, "personat 3");
         faults(7, "person att 3");
@@ -339,7 +349,11 @@ public final class EdgesOfText {
 
     private static void otherWords() {
         Edge.sentence("another WORD");
-        for (String word : new String[] {"at", "nose", "cold", "did", "judge", "x", "windy", "dues", "perso", "houndd", "dogcook"}) {
+        String[] words = {
+            "at", "nose", "cold", "did", "judge", "x", "windy", "dues", "perso", "houndd", "dogcook", "lind", "wine", "sue",
+            "dub", "bog", "dot", "kook", "cool", "xerson", "persom", "carrister", "zerfumer", "sound", "houne",
+        };
+        for (String word : words) {
             faults(0, word);
             faults(0, word + " 1");
             faults(7, "wind 2;" + word + " at 3");

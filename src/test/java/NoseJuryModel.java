@@ -6,12 +6,15 @@ import java.util.regex.Matcher;
 import java.util.regex.Pattern;
 
 /**
- * Runs of 512 calls drawn by fixed seeds, each answer against a second telling of the document,
+ * Runs of at most 512 calls drawn by fixed seeds, each answer against a second telling of the document,
  * written apart from the class: kinds are classes, every ON goes in a copy of all, tokens are a list.
  */
 public final class NoseJuryModel {
-    private static final int RUNS = 600;
+    private static final int RUNS = 900;
+    /** What an object is promised for; a text, and all that is asked at the end of a run, take so many of them. */
     private static final int CALLS = 512;
+    private static final int TEXT_CALLS = 32;
+    private static final int ALL_CALLS = 5 + 8 * 12;
     private static final String[] NAMES = {
         "law", "person", "of", "set", "did", "scent", "turn", "as", "wash", "meet", "smells", "deed", "guilty",
         "convicts", "hours", "now", "on", "clean", "wind", "seat", "bath", "kind", "due", "jury", "juries", "from",
@@ -894,8 +897,10 @@ public final class NoseJuryModel {
         final NoseJury x = new NoseJury();
         final Model model = new Model();
         final StringBuilder log = new StringBuilder();
+        int calls = 0;
 
         boolean agree(String name, int[] a, long v) throws ReflectiveOperationException {
+            calls++;
             long got = real(x, name, a, v);
             long want = model.call(name, a, v);
             log.append(name).append(Arrays.toString(a)).append(' ').append(v).append(" = ").append(want).append('\n');
@@ -908,8 +913,13 @@ public final class NoseJuryModel {
 
         boolean agreeOnText(String text) throws ReflectiveOperationException {
             boolean same = agree("wipe", new int[0], 0);
-            for (int i = 0; same && i < text.length(); i++) {
-                same = agree("feed", new int[] {text.charAt(i), 1}, 0);
+            for (int i = 0; same && i < text.length(); i += 4) {
+                int n = Math.min(4, text.length() - i);
+                int bytes = 0;
+                for (int k = 0; k < n; k++) {
+                    bytes = bytes << 8 | text.charAt(i + k);
+                }
+                same = agree("feed", new int[] {bytes, n}, 0);
             }
             return same && agree("hall", new int[0], 0);
         }
@@ -931,7 +941,7 @@ public final class NoseJuryModel {
     private static boolean runs(long seed) throws ReflectiveOperationException {
         Random r = new Random(seed);
         Run run = new Run();
-        for (int i = 0; i < CALLS; i++) {
+        while (run.calls < CALLS - TEXT_CALLS - ALL_CALLS) {
             String name = NAMES[r.nextInt(NAMES.length)];
             if (r.nextInt(8) == 0) {
                 name = r.nextBoolean() ? "did" : "person";

@@ -942,19 +942,19 @@ public final class NoseJuryPromises {
             12, 7, 7,
         };
         due(texts.length, faults.length);
-        NoseJury x = hallOf(0, 0);
         for (int i = 0; i < texts.length && i < faults.length; i++) {
+            NoseJury x = hallOf(0, 0);
             int got = told(x, texts[i]);
             if (got != -1 - faults[i]) {
                 System.out.println("the text is: " + texts[i]);
             }
             due(-1 - faults[i], got);
             due(0, x.count(1));
+            due(1, x.count(0));
+            due(0, x.now(1));
+            due(20, x.now(2));
+            due(0, x.status(-1));
         }
-        due(1, x.count(0));
-        due(0, x.now(1));
-        due(20, x.now(2));
-        due(0, x.status(-1));
         // A 9th is a fault at the name of its KIND, and none of the text comes then.
         NoseJury y = hallOf(0, 1, 2, 3, 4, 5, 6);
         due(-1 - 29, told(y, "wind 1;dog at 1; cook at 2 ; hound at 99"));
