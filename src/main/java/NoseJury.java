@@ -1000,53 +1000,82 @@ public final class NoseJury {
             return -1 - start;
         }
 
-        /** Where it answers false, the token is the one that can't stand there; else the one behind the item. */
+        /**
+         * Where this, or what takes a part of it, answers false, the token is the one that can't stand there; else the
+         * one behind what was taken.
+         */
         private boolean takesItem(Hall hall) {
             if (isWord("wind")) {
-                if (!takesNumber(0, WINDS - 1)) {
-                    return false;
-                }
-                hall.wind = value;
-                step();
-                return true;
+                return takesWind(hall);
             }
             if (isWord("due")) {
-                if (!takesNumber(DUE_LEAST, DUE_MOST)) {
-                    return false;
-                }
-                hall.due = value;
-                step();
-                return true;
+                return takesDue(hall);
             }
-            return takesPerson(hall);
+            int person = takesPerson(hall);
+            if (person < 0 || !takesNose(hall, person)) {
+                return false;
+            }
+            takeCold(hall, person);
+            return takesDeed(hall, person);
         }
 
-        private boolean takesPerson(Hall hall) {
+        private boolean takesWind(Hall hall) {
+            if (!takesNumber(0, WINDS - 1)) {
+                return false;
+            }
+            hall.wind = value;
+            step();
+            return true;
+        }
+
+        private boolean takesDue(Hall hall) {
+            if (!takesNumber(DUE_LEAST, DUE_MOST)) {
+                return false;
+            }
+            hall.due = value;
+            step();
+            return true;
+        }
+
+        /** The number of the new one, or -1 where the token can't stand there. */
+        private int takesPerson(Hall hall) {
             int kind = kindNamed();
             if (kind < 0 || hall.people >= PEOPLE_MOST) {
-                return false;
+                return -1;
             }
             step();
             if (!isWord("at") || !takesNumber(0, PLACES - 1)) {
-                return false;
+                return -1;
             }
             int person = hall.join(kind, value);
             step();
-            if (isWord("nose")) {
-                if (!takesNumber(0, NOSE_MOST)) {
-                    return false;
-                }
-                hall.noses[person] = value;
-                step();
+            return person;
+        }
+
+        private boolean takesNose(Hall hall, int person) {
+            if (!isWord("nose")) {
+                return true;
             }
+            if (!takesNumber(0, NOSE_MOST)) {
+                return false;
+            }
+            hall.noses[person] = value;
+            step();
+            return true;
+        }
+
+        /** No token is wrong here: what is no cold is looked at by what comes behind it. */
+        private void takeCold(Hall hall, int person) {
             if (isWord("cold")) {
                 hall.colds[person] = 1;
                 step();
             }
-            return !isWord("did") || takesDeed(hall, person);
         }
 
         private boolean takesDeed(Hall hall, int person) {
+            if (!isWord("did")) {
+                return true;
+            }
             if (!takesNumber(0, DEEDS - 1)) {
                 return false;
             }

@@ -1,7 +1,11 @@
 import java.io.IOException;
 import java.nio.file.Files;
 import java.nio.file.Path;
+import java.util.HashMap;
+import java.util.HashSet;
 import java.util.List;
+import java.util.Map;
+import java.util.Set;
 import java.util.regex.Matcher;
 import java.util.regex.Pattern;
 
@@ -19,6 +23,8 @@ public final class NoseJuryLanguage {
     private static final int LINES_MOST = 60;
     private static final int PARAMETERS_MOST = 7;
     private static final int CLASSES_MOST = 12;
+    private static final int CALLS_DEEP_MOST = 8;
+    private static final Pattern CALL = Pattern.compile("\\b(\\w+)\\(");
     private static int wrong = 0;
 
     private static void check(boolean right, String what) {
@@ -41,6 +47,7 @@ public final class NoseJuryLanguage {
         }
         check(classes >= 1 && classes <= CLASSES_MOST, classes + " classes");
         checkMethods(text.lines().toList());
+        checkDepth(text.lines().toList());
         System.out.println(wrong == 0 ? "the language is kept" : wrong + " are wrong");
         if (wrong != 0) {
             System.exit(1);
@@ -64,5 +71,39 @@ public final class NoseJuryLanguage {
             check(!makes || Character.isUpperCase(m.group(2).charAt(0)), m.group(2) + " makes objects, as constructors alone do");
         }
         check(methods > 42, methods + " methods are seen");
+    }
+
+    /** Methods that bear one name in several classes are taken as one, so no call is seen less deep than it goes. */
+    private static void checkDepth(List<String> lines) {
+        Map<String, Set<String>> calls = new HashMap<>();
+        String method = "";
+        for (String line : lines) {
+            Matcher m = METHOD.matcher(line);
+            if (m.matches()) {
+                method = m.group(2);
+                calls.putIfAbsent(method, new HashSet<>());
+                continue;
+            }
+            for (Matcher call = CALL.matcher(line); call.find() && !method.isEmpty();) {
+                calls.get(method).add(call.group(1));
+            }
+        }
+        check(calls.getOrDefault("hall", Set.of()).contains("tellTo"), "no calls are seen");
+        for (String name : calls.keySet()) {
+            int deep = deep(name, calls, 1);
+            check(deep <= CALLS_DEEP_MOST, name + " goes " + deep + " calls deep");
+        }
+    }
+
+    /** The method itself is one call, a function of the library one more. */
+    private static int deep(String name, Map<String, Set<String>> calls, int above) {
+        int most = above;
+        if (above > 2 * CALLS_DEEP_MOST) {
+            return most;
+        }
+        for (String called : calls.getOrDefault(name, Set.of())) {
+            most = Math.max(most, deep(called, calls, above + 1));
+        }
+        return most;
     }
 }
